@@ -9,6 +9,7 @@ public final class BoxesTest {
         puttingRefused();
         pouring();
         pouringIntoItself();
+        pouringAllPlaces();
         pouringRefused();
         lookingAt();
         sharing();
@@ -143,6 +144,20 @@ public final class BoxesTest {
         places(x, 0, 1, 2, 3, 4, 4);
         CHECKS.due("pour() onto the same", x.pour(0, 0, 0, 0, 5), 1);
         places(x, 0, 1, 2, 3, 4, 4);
+    }
+
+    private static void pouringAllPlaces() {
+        BallotHouse x = new BallotHouse();
+        int from = x.box(0, 40);
+        int to = x.box(0, 40);
+        for (int i = 0; i < 40; i++) {
+            x.put(from, i, x.ballot(i % 4, 1));
+        }
+        CHECKS.due("pour() of 40", x.pour(from, 0, to, 0, 40), 1);
+        for (int i = 0; i < 40; i++) {
+            CHECKS.due("at(to, " + i + ")", x.at(to, i), i);
+        }
+        CHECKS.found(x, "pour() of 41", 0, x.pour(from, 0, to, 0, 41), 2);
     }
 
     private static void pouringRefused() {

@@ -11,7 +11,9 @@ public final class TransferTest {
         alikeByTheDraw();
         quotaOfAllPapers();
         transfersOfTransfers();
+        fullBox();
         justNotSpent();
+        justNotSpentBelow();
         spentByAWeight();
         spentByASum();
         spentByTheLastSeat();
@@ -122,6 +124,21 @@ public final class TransferTest {
         CHECKS.due("rounds()", x.rounds(), 5);
     }
 
+    /** QUOTA 40 by 3, and 1 more: 14; of the 20 papers of 0 there go on 6. */
+    private static void fullBox() {
+        BallotHouse x = House.with(3);
+        int box = x.box(1, 40);
+        int first = House.ranked(x, 1, 0, 1);
+        int second = House.ranked(x, 1, 1);
+        for (int i = 0; i < 40; i++) {
+            x.put(box, i, i % 2 == 0 ? first : second);
+        }
+        CHECKS.due("count()", x.count(House.method(x, TRANSFER), box, 2), 2);
+        CHECKS.round(x, 0, 1, 0, 20, 20, 0);
+        CHECKS.round(x, 1, 1, 1, 0, 26, 0);
+        CHECKS.seats(x, "TRANSFER", 0, 1);
+    }
+
     /** 0 has 100003; the others have so many that 10000 or 10001 are above the quota of a third. */
     private static BallotHouse nearlySpent(int others, int... onFirst) {
         BallotHouse x = House.with(4);
@@ -139,6 +156,22 @@ public final class TransferTest {
         CHECKS.round(x, 1, 2, 3, 0, 85001, 85002);
         CHECKS.tally(x, 1, 3, 1000000000, 100003);
         CHECKS.seats(x, "TRANSFER", 0, 2);
+    }
+
+    /**
+     * QUOTA 3814. 0 has 4096, of which 141/2048 go on: 8037/512 to 1, which has 1953125/512
+     * then, of which 357/1953125 go on: 2869209 by 512 times 1953125, which is 1000000000.
+     */
+    private static void justNotSpentBelow() {
+        BallotHouse x = House.with(5);
+        int box = House.boxOf(x, 1, House.ranked(x, 228, 0, 1, 4), House.ranked(x, 3868, 0),
+            House.ranked(x, 3799, 1), House.ranked(x, 3600, 2), House.ranked(x, 3757, 3));
+        CHECKS.due("count()", x.count(House.method(x, TRANSFER), box, 3), 3);
+        CHECKS.round(x, 1, 1, 1);
+        CHECKS.tally(x, 1, 1, 1953125, 512);
+        CHECKS.round(x, 2, 2, 4, 0, 0, 3600, 3757);
+        CHECKS.tally(x, 2, 4, 2869209, 1000000000);
+        CHECKS.seats(x, "TRANSFER", 0, 1, 3);
     }
 
     private static void spentByAWeight() {
