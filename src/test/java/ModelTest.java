@@ -1,9 +1,16 @@
+import java.util.Arrays;
 import java.util.Random;
 
 /** All promises: runs of up to 512 calls, each answered by the class and by the Model alike. */
 public final class ModelTest {
-    private static final int RUNS = 6000;
+    private static final int RUNS = 20000;
+    /** The document promises nothing of an object behind its 512th call. */
+    private static final int MOST_CALLS = 512;
+    /** What is asked of a house at its end: digest(), finding() and six times findings(). */
+    private static final int LAST_CALLS = 8;
+    private static final int MOST_ASKED_OF_A_COUNT = 50;
     private static final int CALLS = 29;
+    private static final int COUNT = 20;
     private static final int[] EDGES = {-1, -9, -8, -10, 8, 9, 10, 20, 30, 31, 40, 41, 60, 255, 256,
         Integer.MIN_VALUE, Integer.MAX_VALUE};
 
@@ -11,45 +18,89 @@ public final class ModelTest {
     private final Random random;
     private final BallotHouse x = new BallotHouse();
     private final Model y = new Model();
+    private final int seed;
     private final int greatestPapers;
     private final int mostCandidates;
     private final boolean rankedMostly;
+    private int calls = 0;
 
-    private ModelTest(Checks checks, int seed, int[] spent) {
+    private ModelTest(Checks checks, int seed) {
         this.checks = checks;
+        this.seed = seed;
         random = new Random(seed);
         int[] papers = {3, 12, 100, 3000, 100000};
         greatestPapers = papers[random.nextInt(papers.length)];
         mostCandidates = 1 + random.nextInt(12);
         rankedMostly = random.nextInt(3) > 0;
-        int calls = 60 + random.nextInt(453);
-        for (int i = 0; i < calls; i++) {
-            int[] p = new int[5];
-            int call = next(p, i, calls);
-            long got = house(call, p);
-            checks.due("seed " + seed + ", call " + i + ": " + name(call, p), got, model(call, p));
-            checks.due("finding() behind it", x.finding(), y.latestFinding);
-            if (call == 20) {
-                spent[got == Model.SPENT ? 0 : got > 0 ? 1 : 2]++;
-                wholeResult(seed);
-            }
-        }
-        checks.due("digest() of seed " + seed, x.digest(), y.digest());
-        for (int f = 1; f <= 6; f++) {
-            checks.due("findings(" + f + ") of seed " + seed, x.findings(f), y.findings(f));
-        }
     }
 
     public static void main(String[] args) {
         Checks checks = new Checks();
-        int[] spent = new int[3];
+        int[] counts = new int[3];
         for (int seed = 0; seed < RUNS; seed++) {
-            new ModelTest(checks, seed, spent);
+            ModelTest run = new ModelTest(checks, seed);
+            if (seed % 2 == 0) {
+                run.fillForCounts();
+            }
+            run.goOn(counts);
+            run.end();
         }
-        System.out.println(spent[0] + " counts spent, " + spent[1] + " done, " + spent[2] + " otherwise refused");
-        checks.holds("some counts are spent", spent[0] > 100);
-        checks.holds("many counts are done", spent[1] > 10000);
+        System.out.println(counts[0] + " counts spent, " + counts[1] + " done, " + counts[2] + " otherwise refused");
+        checks.holds("some counts are spent", counts[0] > 1000);
+        checks.holds("many counts are done", counts[1] > 50000);
         checks.end();
+    }
+
+    /** A full box of RANKED ballots and a TRANSFER at once, as calls at random seldom come to one. */
+    private void fillForCounts() {
+        int candidates = 2 + random.nextInt(7);
+        for (int c = 0; c < candidates; c++) {
+            make(0);
+        }
+        int ballots = 2 + random.nextInt(9);
+        make(8, 1, ballots + random.nextInt(3));
+        make(14, 5, 1, 255, -9);
+        for (int b = 0; b < ballots; b++) {
+            make(3, 1, 1 + random.nextInt(greatestPapers));
+            int onIt = random.nextInt(candidates + 1);
+            for (int i = 0; i < onIt; i++) {
+                make(4, b, random.nextInt(candidates));
+            }
+            make(9, 0, b, b);
+        }
+    }
+
+    private void goOn(int[] counts) {
+        int end = calls + random.nextInt(MOST_CALLS - LAST_CALLS - calls);
+        while (calls < end) {
+            int[] p = new int[5];
+            int call = next(p, calls, end);
+            long got = make(call, p);
+            if (call == COUNT) {
+                counts[got == Model.SPENT ? 0 : got > 0 ? 1 : 2]++;
+                askOfCount(Math.min(MOST_ASKED_OF_A_COUNT, MOST_CALLS - LAST_CALLS - calls));
+            }
+        }
+    }
+
+    private long make(int call, int... given) {
+        int[] p = Arrays.copyOf(given, 5);
+        long got = house(call, p);
+        calls++;
+        checks.due("seed " + seed + ", call " + calls + ": " + name(call, p), got, model(call, p));
+        if (got == Model.FINDING && calls < MOST_CALLS - LAST_CALLS) {
+            checks.due("finding() behind it", x.finding(), y.latestFinding);
+            calls++;
+        }
+        return got;
+    }
+
+    private void end() {
+        checks.due("digest() of seed " + seed, x.digest(), y.digest());
+        checks.due("finding() of seed " + seed, x.finding(), y.latestFinding);
+        for (int f = 1; f <= 6; f++) {
+            checks.due("findings(" + f + ") of seed " + seed, x.findings(f), y.findings(f));
+        }
     }
 
     private static String name(int call, int[] p) {
@@ -111,20 +162,33 @@ public final class ModelTest {
         System.arraycopy(values, 0, p, 0, values.length);
     }
 
-    private void wholeResult(int seed) {
+    /** Asks for what a count came to; of many rounds, from some round on, as many as may be asked. */
+    private void askOfCount(int mostAsked) {
+        int seats = y.many(4) + 1;
+        int perRound = 2 + 2 * y.draw.size();
+        int rounds = Math.min(y.rounds(), (mostAsked - 2 - seats) / perRound);
+        if (mostAsked < 2 + seats) {
+            return;
+        }
         checks.due("where() of seed " + seed, x.where(), y.where);
         checks.due("rounds() of seed " + seed, x.rounds(), y.rounds());
-        for (int i = 0; i <= y.many(4); i++) {
+        for (int i = 0; i < seats; i++) {
             checks.due("seat(" + i + ") of seed " + seed, x.seat(i), y.seat(i));
         }
-        for (int i = 0; i < y.rounds(); i++) {
-            checks.due("round(" + i + ", 0) of seed " + seed, x.round(i, 0), y.round(i, 0));
-            checks.due("round(" + i + ", 1) of seed " + seed, x.round(i, 1), y.round(i, 1));
-            for (int c = 0; c < y.draw.size(); c++) {
-                String tally = "tally(" + i + ", " + c + ") of seed " + seed;
-                checks.due(tally, x.tally(i, c, false), y.tally(i, c, false));
-                checks.due(tally, x.tally(i, c, true), y.tally(i, c, true));
-            }
+        int from = random.nextInt(Math.max(1, y.rounds()));
+        for (int i = from; i < from + rounds; i++) {
+            askOfRound(i % y.rounds());
+        }
+        calls += 2 + seats + rounds * perRound;
+    }
+
+    private void askOfRound(int i) {
+        checks.due("round(" + i + ", 0) of seed " + seed, x.round(i, 0), y.round(i, 0));
+        checks.due("round(" + i + ", 1) of seed " + seed, x.round(i, 1), y.round(i, 1));
+        for (int c = 0; c < y.draw.size(); c++) {
+            String tally = "tally(" + i + ", " + c + ") of seed " + seed;
+            checks.due(tally, x.tally(i, c, false), y.tally(i, c, false));
+            checks.due(tally, x.tally(i, c, true), y.tally(i, c, true));
         }
     }
 
