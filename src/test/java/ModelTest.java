@@ -23,6 +23,8 @@ public final class ModelTest {
     private final int mostCandidates;
     private final boolean rankedMostly;
     private int calls = 0;
+    private int places = 14;
+    private int edgesOneOf = 40;
 
     private ModelTest(Checks checks, int seed) {
         this.checks = checks;
@@ -41,6 +43,8 @@ public final class ModelTest {
             ModelTest run = new ModelTest(checks, seed);
             if (seed % 2 == 0) {
                 run.fillForCounts();
+            } else if (seed % 8 == 1) {
+                run.fillUp();
             }
             run.goOn(counts);
             run.end();
@@ -67,6 +71,24 @@ public final class ModelTest {
                 make(4, b, random.nextInt(candidates));
             }
             make(9, 0, b, b);
+        }
+    }
+
+    /** As much of all as a house takes, and one call more of each: calls at random do not come so far. */
+    private void fillUp() {
+        places = 40;
+        edgesOneOf = 12;
+        for (int c = 0; c <= 10; c++) {
+            make(0);
+        }
+        for (int b = 0; b <= 60; b++) {
+            make(3, sort(), 1 + random.nextInt(greatestPapers));
+        }
+        for (int b = 0; b <= 8; b++) {
+            make(8, sort(), random.nextInt(3) == 0 ? 40 : random.nextInt(41));
+        }
+        for (int m = 0; m <= 20; m++) {
+            make(14, m % 9, random.nextInt(3), random.nextInt(256), m == 0 || random.nextInt(2) == 0 ? -9 : m - 1);
         }
     }
 
@@ -112,7 +134,7 @@ public final class ModelTest {
     }
 
     private int number(int bound) {
-        if (random.nextInt(40) == 0) {
+        if (random.nextInt(edgesOneOf) == 0) {
             return EDGES[random.nextInt(EDGES.length)];
         }
         return random.nextInt(Math.max(1, bound));
@@ -139,9 +161,9 @@ public final class ModelTest {
             case 6 -> set(p, number(ballots), number(14));
             case 7 -> set(p, number(ballots), number(4));
             case 8 -> set(p, sort(), random.nextInt(6) == 0 ? number(41) : 4 + number(12));
-            case 9 -> set(p, number(boxes), number(14), random.nextInt(12) == 0 ? -9 : number(ballots));
-            case 10 -> set(p, number(boxes), number(6), number(boxes), number(6), number(8));
-            case 11, 12 -> set(p, number(boxes), number(14));
+            case 9 -> set(p, number(boxes), number(places), random.nextInt(12) == 0 ? -9 : number(ballots));
+            case 10 -> set(p, number(boxes), number(places / 2), number(boxes), number(places / 2), number(places / 2));
+            case 11, 12 -> set(p, number(boxes), number(places));
             case 14 -> set(p, random.nextInt(4) == 0 ? 5 : number(9), random.nextInt(5) - 2, random.nextInt(256),
                 random.nextInt(3) == 0 ? number(methods) : -9);
             case 15, 16 -> set(p, number(methods), call == 15 ? number(5) : number(9));
