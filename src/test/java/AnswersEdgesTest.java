@@ -23,6 +23,7 @@ public final class AnswersEdgesTest {
         talliesOfOneThatComesLater();
         aShorterResultHidesTheLonger();
         aRefusedCountLeavesTheResult();
+        otherCallsLeaveTheResult();
         manyOfEach();
         manyOfFullHouses();
         eachFindingHasItsNumber();
@@ -160,6 +161,22 @@ public final class AnswersEdgesTest {
         for (int[] p : refused) {
             CHECKS.holds("count() is refused", x.count(p[0], p[1], p[2]) < 0);
             CHECKS.seats(x, "the one that was not refused", 2, 1);
+            CHECKS.due("rounds()", x.rounds(), 2);
+            CHECKS.round(x, 0, 1, 2, 0, 4, 5);
+            CHECKS.round(x, 1, 1, 1, 0, 4, 5);
+        }
+    }
+
+    /** What is told is of the count as it was: what its box, ballots and DRAW become later does not matter. */
+    private static void otherCallsLeaveTheResult() {
+        List<Edges.Call> calls = List.of(x -> x.draw(0, 2), x -> x.rank(1, 1), x -> x.rank(4, 0), x -> x.score(3, 0, 9),
+            x -> x.put(1, 0, NONE), x -> x.put(1, 2, 4), x -> x.pour(1, 1, 1, 0, 2), x -> x.ballot(1, 100000),
+            x -> x.box(1, 3), x -> x.method(0, 9, 255, NONE), x -> x.start(2), x -> x.find(0), x -> x.stand());
+        BallotHouse x = new BallotHouse();
+        House.ordinary(x);
+        for (Edges.Call call : calls) {
+            CHECKS.holds("the call is not refused", call.of(x) >= 0);
+            CHECKS.seats(x, "a count, behind another call", 2, 1);
             CHECKS.due("rounds()", x.rounds(), 2);
             CHECKS.round(x, 0, 1, 2, 0, 4, 5);
             CHECKS.round(x, 1, 1, 1, 0, 4, 5);
